@@ -106,13 +106,16 @@ public final class TalesTest {
     private static void newSeas() {
         DriftDesk desk = Check.deskOf("stream 0 0 1 0;");
         desk.tale(0, 0, 0, 0, 1);
+        desk.tale(0, 5, 5, 71, 1);
         Check.due("by the first sea", desk.place(0, 1), 1);
+        Check.due("another by the first sea", desk.place(1, 72), 506);
         Check.sea(desk, "stream 0 0 0 1;");
         Check.due("by the second", desk.place(0, 1), 100);
+        Check.due("another by the second", desk.place(1, 72), 605);
         Check.sea(desk, "stream 0 0 0 1");
         Check.due("a faulty one changes nothing", desk.place(0, 1), 100);
         Check.sea(desk, "land 0 0;");
         Check.due("land comes", desk.state(0, 0), 1);
-        Check.due("the tales stay", desk.about(1), 1);
+        Check.due("the tales stay", desk.about(1), 2);
     }
 }
