@@ -48,6 +48,16 @@ public final class Check {
         return desk;
     }
 
+    /** A text without a FAULT, on a new desk. */
+    public static void lines(String text, int lines) {
+        DriftDesk desk = new DriftDesk();
+        String name = "[" + text.replace("\n", "\\n") + "]";
+        due("sea() of " + name, sea(desk, text), lines);
+        due("fault(0) of " + name, desk.fault(0), 0);
+        due("fault(1) of " + name, desk.fault(1), DriftDesk.NONE);
+        due("about(0) of " + name, desk.about(0), lines);
+    }
+
     /** A text with a FAULT, on a new desk. */
     public static void fault(String text, int fault, int place) {
         DriftDesk desk = new DriftDesk();

@@ -1,9 +1,12 @@
 import java.math.BigInteger;
 import java.util.ArrayList;
 import java.util.Arrays;
+import java.util.HashMap;
 import java.util.List;
 import java.util.Map;
 import java.util.TreeMap;
+import java.util.regex.Matcher;
+import java.util.regex.Pattern;
 
 /**
  * The document once more, written plainly and apart from the class: nothing is kept but what was
@@ -18,9 +21,12 @@ public final class Model {
         {{0, 7}, {0, 7}},
         {{0, 1}, {1, 20}, {0, 100}}};
     private static final int[] KEYS = {1, 2, 1, 2, 2};
+    private static final Pattern RUN = Pattern.compile("[a-z]+|-?[0-9]+[a-z]*|;");
+    private static final Pattern TOKEN = Pattern.compile("[a-z]{1,8}|-?[0-9]{1,3}|;");
 
     /** By word and the numbers that tell which: the numbers behind those. */
     private TreeMap<String, int[]> facts = new TreeMap<>();
+    private final Map<String, int[]> known = new HashMap<>();
     private final StringBuilder tape = new StringBuilder();
     private final List<int[]> tales = new ArrayList<>();
     private final List<int[]> proofs = new ArrayList<>();
@@ -62,6 +68,7 @@ public final class Model {
             }
         }
         facts = told;
+        known.clear();
         return facts.size();
     }
 
@@ -81,9 +88,8 @@ public final class Model {
 
     /** The token at a place, or an empty text if there is none. */
     private static String tokenAt(String text, int at) {
-        String rest = text.substring(at);
-        String run = rest.replaceFirst("(?s)^([a-z]+|-?[0-9]+[a-z]*|;).*$", "$1");
-        return run.matches("[a-z]{1,8}|-?[0-9]{1,3}|;") && rest.startsWith(run) ? run : "";
+        Matcher run = RUN.matcher(text).region(at, text.length());
+        return run.lookingAt() && TOKEN.matcher(run.group()).matches() ? run.group() : "";
     }
 
     private int line(String text, int start, Map<String, int[]> told) {
@@ -145,7 +151,12 @@ public final class Model {
         return least <= value && value <= most;
     }
 
+    /** Looked up once for each SEA: a walk back over 72 hours for each step takes too long. */
     private int[] latest(String words, int last, int least, int[] none) {
+        return known.computeIfAbsent(words + " " + last, key -> lookBack(words, last, least, none));
+    }
+
+    private int[] lookBack(String words, int last, int least, int[] none) {
         for (int i = last; i >= least; i--) {
             int[] found = facts.get(words + " " + i);
             if (found != null) {

@@ -14,7 +14,10 @@ public final class LanguageTest {
 
     public static void main(String[] args) throws IOException {
         face();
-        wordsOfSource(Files.readString(Path.of("src/main/java/DriftDesk.java")));
+        sizes();
+        String source = Files.readString(Path.of("src/main/java/DriftDesk.java"));
+        wordsOfSource(source);
+        lengthsOfMethods(source.split("\n"));
         Check.endOf("LanguageTest");
     }
 
@@ -43,6 +46,50 @@ public final class LanguageTest {
         for (Constructor<?> made : DriftDesk.class.getDeclaredConstructors()) {
             Check.due("one way to make it: " + made, made.getParameterCount(), 0);
         }
+    }
+
+    // Rule 11, and rule 5: static fields are final.
+    private static void sizes() {
+        Class<?>[] inside = DriftDesk.class.getDeclaredClasses();
+        Check.due("classes: " + (inside.length + 1), inside.length + 1 <= 12, true);
+        sizesOf(DriftDesk.class);
+        for (Class<?> each : inside) {
+            sizesOf(each);
+        }
+    }
+
+    private static void sizesOf(Class<?> each) {
+        int fields = 0;
+        for (Field field : each.getDeclaredFields()) {
+            boolean fixed = Modifier.isStatic(field.getModifiers());
+            fields += fixed ? 0 : 1;
+            Check.due("final: " + field, !fixed || Modifier.isFinal(field.getModifiers()), true);
+        }
+        Check.due("fields of " + each + ": " + fields, fields <= 20, true);
+        for (Method method : each.getDeclaredMethods()) {
+            Check.due("parameters of " + method, method.getParameterCount() <= 7, true);
+        }
+        for (Constructor<?> made : each.getDeclaredConstructors()) {
+            Check.due("parameters of " + made, made.getParameterCount() <= 7, true);
+        }
+    }
+
+    private static void lengthsOfMethods(String[] lines) {
+        int start = -1;
+        String close = "";
+        for (int i = 0; i < lines.length; i++) {
+            String indent = lines[i].replaceFirst("\\S.*$", "");
+            boolean opens = lines[i].endsWith(") {") && !lines[i].contains("}")
+                    && !lines[i].matches("\\s*(if|for|while|switch|do|return|boolean \\w+ =|&&).*");
+            if (start < 0 && opens && indent.length() <= 8) {
+                start = i;
+                close = indent + "}";
+            } else if (start >= 0 && lines[i].equals(close)) {
+                Check.due("lines of [" + lines[start] + "]", i - start < 60, true);
+                start = -1;
+            }
+        }
+        Check.due("every method ends", start, -1);
     }
 
     private static void wordsOfSource(String source) {

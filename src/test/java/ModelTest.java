@@ -23,11 +23,14 @@ public final class ModelTest {
         for (int i = 0; i < tales; i++) {
             tale();
         }
-        for (int i = 0; i < 60; i++) {
-            call();
+        // A text is read into rows that held the last but one: it takes three to show what stayed.
+        for (int texts = 0; texts < 5; texts++) {
+            for (int i = 0; i < 25; i++) {
+                call();
+            }
+            text(random.nextInt(3) == 0);
         }
-        text(random.nextBoolean());
-        for (int i = 0; i < 60; i++) {
+        for (int i = 0; i < 25; i++) {
             call();
         }
     }

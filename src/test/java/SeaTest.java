@@ -53,11 +53,13 @@ public final class SeaTest {
         Check.due("bytes behind end(0)", desk.about(4), 0);
         Check.due("end(1) on none", desk.end(1), -1);
         // "lee0" "100;" "land" "7 7;" "    ": the highest byte of each number comes first
-        Check.due("feed", desk.feed(0x6c656530, 0x3130303b, 0x6c616e64, 0x3720373b, 0x20202020), 20);
+        Check.due("feed",
+                desk.feed(0x6c656530, 0x3130303b, 0x6c616e64, 0x3720373b, 0x20202020), 20);
         Check.due("sea: lee0 is a word and a number", desk.sea(), -1);
         Check.due("its fault: 0100 has four digits", desk.fault(0), 1);
         Check.due("its place", desk.fault(1), 3);
-        Check.due("feed", desk.feed(0x6c656530, 0x2031303b, 0x6c616e64, 0x3720373b, 0x0a0a0a0a), 20);
+        Check.due("feed",
+                desk.feed(0x6c656530, 0x2031303b, 0x6c616e64, 0x3720373b, 0x0a0a0a0a), 20);
         Check.due("sea", desk.sea(), 2);
         Check.due("land(63)", desk.land(63), 1);
     }
