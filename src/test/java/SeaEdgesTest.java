@@ -50,15 +50,16 @@ public final class SeaEdgesTest {
 
     // Promise 1: "Nothing told of the SEA, no TALES."
     private static void nothingToldOnANewObject() {
-        DriftDesk desk = new DriftDesk();
-        for (int hour = 0; hour <= 71; hour++) {
-            Check.due("new: wind x", desk.wind(hour, false), 0);
-            Check.due("new: wind y", desk.wind(hour, true), 0);
-            for (int quarter = 0; quarter <= 3; quarter++) {
+        for (int quarter = 0; quarter <= 3; quarter++) {
+            DriftDesk desk = new DriftDesk();
+            for (int hour = 0; hour <= 71; hour++) {
+                Check.due("new: wind x", desk.wind(hour, false), 0);
+                Check.due("new: wind y", desk.wind(hour, true), 0);
                 Check.due("new: stream x", desk.stream(quarter, hour, false), 0);
                 Check.due("new: stream y", desk.stream(quarter, hour, true), 0);
             }
         }
+        DriftDesk desk = new DriftDesk();
         for (int effort = 0; effort <= 20; effort++) {
             Check.due("new: miss 0", desk.miss(0, effort), 100);
             Check.due("new: miss 1", desk.miss(1, effort), 100);

@@ -2,6 +2,8 @@
 public final class TaleEdgesTest {
     private static final int[] LEAST = {0, 0, 0, 0, 1};
     private static final int[] MOST = {3, 79, 79, 71, 1000};
+    /** Four quarters, eight tales, and the cells with what is missed. */
+    private static final int PARTS = 13;
 
     public static void main(String[] args) {
         limitsOfATale();
@@ -342,17 +344,17 @@ public final class TaleEdgesTest {
             "miss 1 5 5;", "wind 0 1 2; wind 50 3 4; stream 0 0 5 6; stream 3 71 7 8; lee 0 100; ?",
             "stream 2 4 1 1;", "wind 3 1 1; land 2 2; miss 0 3 3; lee 2 90; stream 0 3 2 2; wind",
             ""};
-        DriftDesk desk = new DriftDesk();
-        DriftDesk fresh = new DriftDesk();
-        tellAll(desk);
-        tellAll(fresh);
-        for (int round = 0; round < 2; round++) {
-            for (String text : texts) {
-                if (Check.sea(desk, text) >= 0) {
-                    fresh = Check.deskOf(text);
-                    tellAll(fresh);
+        for (int last = 0; last < texts.length; last++) {
+            for (int part = 0; part < PARTS; part++) {
+                DriftDesk desk = new DriftDesk();
+                tellAll(desk);
+                String read = "";
+                for (int i = 0; i <= last; i++) {
+                    read = Check.sea(desk, texts[i]) >= 0 ? texts[i] : read;
                 }
-                same(desk, fresh);
+                DriftDesk fresh = Check.deskOf(read);
+                tellAll(fresh);
+                same(part, desk, fresh);
             }
         }
     }
@@ -364,30 +366,43 @@ public final class TaleEdgesTest {
         }
     }
 
-    private static void same(DriftDesk desk, DriftDesk fresh) {
+    /** Looks at one part of what there is: a desk has 512 calls. */
+    private static void same(int part, DriftDesk desk, DriftDesk fresh) {
         Check.due("lines", desk.about(0), fresh.about(0));
-        for (int hour = 0; hour <= 71; hour++) {
-            Check.due("wind", desk.wind(hour, false), fresh.wind(hour, false));
-            Check.due("wind", desk.wind(hour, true), fresh.wind(hour, true));
-            for (int quarter = 0; quarter <= 3; quarter++) {
-                Check.due("stream x", desk.stream(quarter, hour, false),
-                        fresh.stream(quarter, hour, false));
-                Check.due("stream y", desk.stream(quarter, hour, true),
-                        fresh.stream(quarter, hour, true));
-            }
+        if (part < 4) {
+            sameFlows(part, desk, fresh);
+        } else if (part < 12) {
+            sameDrift(part - 4, desk, fresh);
+        } else {
+            sameCells(desk, fresh);
         }
+    }
+
+    private static void sameFlows(int quarter, DriftDesk desk, DriftDesk fresh) {
+        for (int hour = 0; hour <= 71; hour++) {
+            Check.due("wind x", desk.wind(hour, false), fresh.wind(hour, false));
+            Check.due("wind y", desk.wind(hour, true), fresh.wind(hour, true));
+            Check.due("stream x", desk.stream(quarter, hour, false),
+                    fresh.stream(quarter, hour, false));
+            Check.due("stream y", desk.stream(quarter, hour, true),
+                    fresh.stream(quarter, hour, true));
+        }
+    }
+
+    private static void sameDrift(int tale, DriftDesk desk, DriftDesk fresh) {
+        for (int moment = 0; moment <= 72; moment++) {
+            Check.due("place", desk.place(tale, moment), fresh.place(tale, moment));
+            Check.due("state", desk.state(tale, moment), fresh.state(tale, moment));
+        }
+    }
+
+    private static void sameCells(DriftDesk desk, DriftDesk fresh) {
         for (int effort = 0; effort <= 20; effort++) {
             Check.due("miss", desk.miss(0, effort), fresh.miss(0, effort));
             Check.due("miss", desk.miss(1, effort), fresh.miss(1, effort));
         }
         for (int cell = 0; cell <= 63; cell++) {
             Check.due("land", desk.land(cell), fresh.land(cell));
-        }
-        for (int tale = 0; tale < 8; tale++) {
-            for (int moment = 0; moment <= 72; moment++) {
-                Check.due("place", desk.place(tale, moment), fresh.place(tale, moment));
-                Check.due("state", desk.state(tale, moment), fresh.state(tale, moment));
-            }
         }
     }
 }
